@@ -90,7 +90,8 @@ public final class FindingAid {
     public int move(int node, int parent) throws IndexOutOfBoundsException, IllegalArgumentException {
         requireNode(node);
         requireNode(parent);
-        if (node == ROOT || now.tree.isWithin(parent, node) || now.tree.kind[parent] >= now.tree.kind[node]) {
+        // The kinds grow on the way down, so that this also refuses the root, the node itself and what is below it.
+        if (now.tree.kind[parent] >= now.tree.kind[node]) {
             throw new IllegalArgumentException("the node cannot be moved there");
         }
         remember();
@@ -340,7 +341,8 @@ public final class FindingAid {
         int cause = now.causeOfReader(reader, day);
         int shown = cause == NO_CAUSE ? now.chooseShown(node, day) : REFUSED;
         if (shown == REFUSED) {
-            fillReport(cause == NO_CAUSE ? now.causeOfUnit(node, day) : cause, reader, node, day);
+            int finalCause = cause == NO_CAUSE ? now.causeOfUnit(node, day) : cause;
+            fillReport(node, finalCause, now.detailOf(finalCause, reader, node, day));
             throw new UnsupportedOperationException("the request is refused");
         }
         remember();
@@ -572,23 +574,12 @@ public final class FindingAid {
         undoable = Math.min(undoable + 1, MAX_UNDO);
     }
 
-    private void fillReport(int cause, int reader, int node, int day) {
+    private void fillReport(int node, int cause, int detail) {
         report.levels = 0;
         report.append(REFUSED_UNIT, node);
-        report.append(cause, detailOf(cause, reader, node, day));
+        report.append(cause, detail);
         if (cause >= UNIT_CLOSED) {
             report.append(COPIES_OF_UNIT, now.copies.countOf(node));
-        }
-    }
-
-    private int detailOf(int cause, int reader, int node, int day) {
-        switch (cause) {
-            case TOO_MANY_REQUESTS: return reader;
-            case NO_SEAT: return day;
-            case UNIT_CLOSED: return now.rules.decidingNode(now.tree, node);
-            case PAGE_CLOSED: return now.lowestClosedPage(node, day);
-            case NO_CONTAINER: return node;
-            default: return now.readerOfOriginal(node, day);
         }
     }
 
@@ -713,6 +704,17 @@ public final class FindingAid {
                 return PAGE_CLOSED;
             }
             return containers.holder[unit] == NONE ? NO_CONTAINER : ORIGINAL_SHOWN;
+        }
+
+        int detailOf(int cause, int reader, int unit, int day) {
+            switch (cause) {
+                case TOO_MANY_REQUESTS: return reader;
+                case NO_SEAT: return day;
+                case UNIT_CLOSED: return rules.decidingNode(tree, unit);
+                case PAGE_CLOSED: return lowestClosedPage(unit, day);
+                case NO_CONTAINER: return unit;
+                default: return readerOfOriginal(unit, day);
+            }
         }
 
         int lowestClosedPage(int unit, int day) {
@@ -875,12 +877,6 @@ public final class FindingAid {
                 depth++;
             }
             return depth;
-        }
-
-        boolean isWithin(int node, int top) {
-            int at = place(node);
-            int start = place(top);
-            return at >= start && at <= start + below[top];
         }
 
         int latestDay(int node) {

@@ -29,6 +29,7 @@ public final class ContainersTest {
             Check.same("merge", aid.merge(container - 1, 0), 0);
             Check.same("container", aid.addContainer(200), container);
         }
+        Check.fails("there is no container 30", Check.INDEX, () -> aid.container(30, 0));
         aid.merge(29, 0);
         Check.refuses("the 31st", Check.STATE, aid, () -> aid.addContainer(5));
         aid.put(1, 1);

@@ -66,6 +66,8 @@ public final class NodesTest {
         for (int node = 1; node < 40; node++) {
             Check.same("add", aid.add(0, 2, 1, 0, 0), node);
         }
+        Check.fails("there is no node 40", Check.INDEX, () -> aid.node(40, 0));
+        Check.fails("there is no node 40", Check.INDEX, () -> aid.add(40, 3, 0, -1, 0));
         Check.same("remove", aid.remove(39), 1);
         Check.refuses("the 41st node", Check.STATE, aid, () -> aid.add(0, 2, 1, 0, 0));
         Check.refuses("first its arguments", Check.ARGUMENT, aid, () -> aid.add(0, 0, 1, 0, 0));

@@ -13,6 +13,7 @@ public final class TextsTest {
         undoKnowsEightChanges();
         queriesAndFailuresAreNoChanges();
         saveAndRestore();
+        savedRowsAreItsOwn();
         Check.end();
     }
 
@@ -182,23 +183,24 @@ public final class TextsTest {
         aid.put(2, 0);
         aid.put(3, 0);
         aid.copy(3, 1);
-        aid.request(0, 2, 200);
+        aid.request(0, 2, 9000);
         aid.setSeats(4);
         Check.Call[] changes = {
             () -> aid.add(0, 3, 1, -1, 0), () -> aid.remove(1), () -> aid.remove(3), () -> aid.move(2, 0),
             () -> aid.setRule(1, 0, 5000), () -> aid.setPage(2, 1, 5000), () -> aid.addContainer(7),
             () -> aid.put(5, 0), () -> aid.put(2, 0), () -> aid.takeOut(2), () -> aid.split(0, 1, 9),
-            () -> aid.copy(2, 1), () -> aid.setSeats(5), () -> aid.request(1, 3, 200), () -> aid.cancel(0),
+            () -> aid.copy(2, 1), () -> aid.setSeats(5), () -> aid.request(1, 3, 9000), () -> aid.cancel(0),
             () -> aid.review(), () -> read(aid, 1, "2(3p1)"),
         };
         for (int i = 0; i < changes.length; i++) {
+            // A change of its own before each, so that the state before it is not that of an earlier undo.
+            aid.setRule(0, 0, 1 + i);
             String before = Dump.state(aid);
             if (Check.outcome(changes[i]).endsWith("Exception")) {
                 Check.fail("change " + i + " is refused");
             }
             Check.same("undo of change " + i, aid.undo(), 7);
             Check.same("the state before change " + i, Dump.state(aid), before);
-            aid.setRule(0, -1, 0);
         }
         aid.addContainer(100);
         String before = Dump.state(aid);
@@ -274,6 +276,48 @@ public final class TextsTest {
         aid.add(0, 1, 0, -1, 0);
         Check.same("restore", aid.restore(), 1);
         Check.same("numbers go on", aid.add(0, 1, 0, -1, 0), 6);
+    }
+
+    /** What is taken over by undo and restore is compared after other values stood in its place. */
+    private static void savedRowsAreItsOwn() {
+        FindingAid aid = new FindingAid();
+        aid.addContainer(50);
+        aid.save();
+        String empty = Dump.state(aid);
+        aid.add(0, 2, 5, 10, 20);
+        aid.add(0, 3, 6, 30, 40);
+        aid.setRule(1, 1, 77);
+        aid.setPage(1, 1, 88);
+        aid.put(1, 0);
+        aid.copy(1, 3);
+        aid.request(1, 1, 9000);
+        String first = Dump.state(aid);
+        aid.restore();
+        Check.same("the empty state", Dump.state(aid), empty);
+        read(aid, 0, "3p9@50-60,");
+        read(aid, 0, "3p9@50-60");
+        read(aid, 0, "2p8@70-80(3p4)");
+        aid.setRule(1, 0, 99);
+        aid.setPage(1, 1, 11);
+        aid.addContainer(40);
+        aid.put(2, 1);
+        aid.put(3, 0);
+        aid.copy(2, 5);
+        aid.copy(3, 1);
+        aid.request(2, 2, 9000);
+        aid.request(3, 3, 9001);
+        String second = Dump.state(aid);
+        aid.save();
+        for (int left = 7; left >= 0; left--) {
+            Check.same("left", aid.undo(), left);
+        }
+        aid.remove(2);
+        aid.put(1, 0);
+        aid.copy(1, 6);
+        aid.request(5, 1, 9100);
+        aid.restore();
+        Check.same("the second state", Dump.state(aid), second);
+        Check.same("the first state was another one", first.equals(second) ? 1 : 0, 0);
     }
 
     private static int read(FindingAid aid, int parent, String text) {
