@@ -338,11 +338,13 @@ public final class FindingAid {
         if (now.requests.count >= MAX_REQUESTS) {
             throw new IllegalStateException("there are all requests");
         }
+        int shown = now.chooseShown(node, day);
         int cause = now.causeOfReader(reader, day);
-        int shown = cause == NO_CAUSE ? now.chooseShown(node, day) : REFUSED;
-        if (shown == REFUSED) {
-            int finalCause = cause == NO_CAUSE ? now.causeOfUnit(node, day) : cause;
-            fillReport(node, finalCause, now.detailOf(finalCause, reader, node, day));
+        if (cause == NO_CAUSE && shown == REFUSED) {
+            cause = now.causeOfUnit(node, day);
+        }
+        if (cause != NO_CAUSE) {
+            fillReport(node, cause, now.detailOf(cause, reader, node, day));
             throw new UnsupportedOperationException("the request is refused");
         }
         remember();

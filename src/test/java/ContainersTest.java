@@ -246,6 +246,11 @@ public final class ContainersTest {
         aid.restore();
         Check.same("restored", aid.resolve(29, 1639), 1 + 1599 % 39);
         Check.same("an early mark", aid.resolve(0, 39), 39);
+        for (int i = 1600 + 30 * 39; i < 4096; i++) {
+            aid.put(1, 29);
+        }
+        Check.refuses("a mark beyond all that the document allows", Check.STATE, aid, () -> aid.put(1, 29));
+        Check.same("marks", aid.account(9), 4096);
     }
 
     private static void order(FindingAid aid, int container, int... units) {

@@ -115,6 +115,9 @@ public final class ModelTest {
         if (i < 25 && choice < 80 || choice < 6) {
             return build();
         }
+        if (style == 4 && choice < 16) {
+            return snapshot();
+        }
         if (choice < 12) {
             return text();
         }
@@ -165,7 +168,7 @@ public final class ModelTest {
     }
 
     private boolean snapshot() {
-        int choice = draw(style == 4 ? 3 : 12);
+        int choice = draw(style == 4 ? 8 : 12);
         if (choice == 0) {
             return same("save", 0, 0, 0, (a, b, c) -> aid.save(), (a, b, c) -> model.save());
         }

@@ -294,24 +294,25 @@ public final class TextsTest {
         String first = Dump.state(aid);
         aid.restore();
         Check.same("the empty state", Dump.state(aid), empty);
-        read(aid, 0, "3p9@50-60,");
-        read(aid, 0, "3p9@50-60");
-        read(aid, 0, "2p8@70-80(3p4)");
+        read(aid, 0, "3p9@50-60,2(3)");
+        read(aid, 0, "2p9@50-60(3p4)");
         aid.setRule(1, 0, 99);
         aid.setPage(1, 1, 11);
-        aid.addContainer(40);
-        aid.put(2, 1);
-        aid.put(3, 0);
-        aid.copy(2, 5);
-        aid.copy(3, 1);
-        aid.request(2, 2, 9000);
-        aid.request(3, 3, 9001);
+        aid.put(1, 0);
+        aid.put(2, 0);
+        aid.copy(1, 5);
+        aid.request(2, 1, 9000);
         String second = Dump.state(aid);
-        aid.save();
-        for (int left = 7; left >= 0; left--) {
+        Check.same("save", aid.save(), 3);
+        for (int left = 6; left >= 0; left--) {
             Check.same("left", aid.undo(), left);
         }
-        aid.remove(2);
+        Check.same("all of it is taken back", Dump.state(aid), empty);
+        aid.add(0, 3, 6, 30, 40);
+        aid.add(0, 1, 0, 50, 60);
+        aid.setRule(1, 2, 0);
+        aid.setPage(1, 2, 12);
+        aid.put(1, 0);
         aid.put(1, 0);
         aid.copy(1, 6);
         aid.request(5, 1, 9100);
