@@ -22,10 +22,18 @@ final class Check {
         }
     }
 
+    /** Tells the first line that is not as due. */
     static void same(String what, String got, String due) {
-        if (!got.equals(due)) {
-            fail(what + " answered\n" + got + "\ndue is\n" + due);
+        if (got.equals(due)) {
+            return;
         }
+        String[] lines = got.split("\n", -1);
+        String[] dueLines = due.split("\n", -1);
+        int at = 0;
+        while (at < lines.length - 1 && at < dueLines.length - 1 && lines[at].equals(dueLines[at])) {
+            at++;
+        }
+        fail(what + " answered in line " + (at + 1) + "\n" + lines[at] + "\ndue is\n" + dueLines[at]);
     }
 
     static void fails(String what, Class<? extends RuntimeException> due, Call call) {

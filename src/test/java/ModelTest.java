@@ -1,14 +1,25 @@
-/** Long runs of calls, drawn by a fixed rule, on the program and on the model: each answer has to be the same. */
+/**
+ * Long runs of calls, drawn by a fixed rule, on the program and on the model: each answer has to be the same. A run
+ * ends with its 512th call, which is another method of the face in each run.
+ */
 public final class ModelTest {
-    private static final int RUNS = 800;
-    private static final int CALLS = 511;
+    private static final int RUNS = 900;
+    private static final int CALLS = 512;
+    private static final int METHODS = 36;
     private static final int[] WEIRD = {-1, -2, 7, 40, 41, 10000, Integer.MAX_VALUE, Integer.MIN_VALUE};
     private static final String LETTERS = "0123p@-(),9x";
+    // The methods in the order of their promises: 0 is add, and 35 restore.
+    private static final int[] BUILDS = {0, 0, 0, 0, 0, 10};
+    private static final int[] CHANGES = {2, 1, 5, 5, 6, 11, 11, 11, 11, 12, 13, 14};
+    private static final int[] LENDS = {18, 20, 23, 24, 21, 21, 21, 21, 21, 21, 21, 21};
+    private static final int[] ASKS = {3, 4, 7, 8, 9, 15, 16, 17, 19, 22, 25, 26, 27, 3, 7, 8, 17, 19};
 
     private long seed;
     private int style;
-    private FindingAid aid = new FindingAid();
-    private Model model = new Model();
+    private int made = 0;
+    private int most = CALLS - 1;
+    private final FindingAid aid = new FindingAid();
+    private final Model model = new Model();
     private final StringBuilder calls = new StringBuilder();
 
     private ModelTest(long seed) {
@@ -27,13 +38,16 @@ public final class ModelTest {
     /** The style of a run lets it take many small units, undo, lend or go back to what was saved more than others. */
     private boolean run(int run) {
         style = draw(6);
-        for (int i = 0; i < CALLS; i++) {
-            if (!step(i)) {
-                Check.fail("run " + run + ":\n" + calls);
-                return false;
-            }
+        boolean isSame = true;
+        for (int i = 0; isSame && made < most; i++) {
+            isSame = step(i);
         }
-        return true;
+        most = CALLS;
+        isSame = isSame && method(run % METHODS) && made == CALLS;
+        if (!isSame) {
+            Check.fail("run " + run + ":\n" + calls);
+        }
+        return isSame;
     }
 
     private int draw(int bound) {
@@ -98,7 +112,12 @@ public final class ModelTest {
         double of(int a, int b, int c);
     }
 
+    /** Makes no call beyond the most that the object may get. */
     private boolean same(String name, int a, int b, int c, Asked program, Asked due) {
+        if (made >= most) {
+            return true;
+        }
+        made++;
         String got = Check.outcome(() -> program.of(a, b, c));
         String wanted = Check.outcome(() -> due.of(a, b, c));
         calls.append(name).append(' ').append(a).append(' ').append(b).append(' ').append(c).append(" -> ")
@@ -113,100 +132,53 @@ public final class ModelTest {
     private boolean step(int i) {
         int choice = draw(100);
         if (i < 25 && choice < 80 || choice < 6) {
-            return build();
+            return method(BUILDS[draw(BUILDS.length)]);
         }
         if (style == 4 && choice < 16) {
             return snapshot();
         }
         if (choice < 12) {
-            return text();
+            return draw(3) == 0 ? written() : fed();
         }
         if (choice < (style >= 3 ? 25 : 40)) {
             return change();
         }
-        return choice < 65 ? lend() : ask();
+        return choice < 65 ? lend() : method(ASKS[draw(ASKS.length)]);
     }
 
-    private boolean build() {
-        if (draw(6) == 0) {
-            int capacity = mostly(style == 1 ? 200 : 1 + draw(60));
-            return same("addContainer", capacity, 0, 0, (a, b, c) -> aid.addContainer(a),
-                (a, b, c) -> model.addContainer(a));
-        }
-        int kind = mostly(draw(4) == 0 ? 1 : 2 + draw(2));
-        int pages = mostly(kind == 1 ? 0 : style == 1 ? draw(3) : draw(21));
-        int from = draw(3) == 0 ? -1 : mostly(draw(30));
-        int to = mostly(from + draw(30));
-        return same("add(.., " + from + ", " + to + ")", draw(2) == 0 ? 0 : node(), kind, pages,
-            (a, b, c) -> aid.add(a, b, c, from, to), (a, b, c) -> model.add(a, b, c, from, to));
-    }
-
+    /** Removes, cancels and reviews less than else, as much would be gone by it. */
     private boolean change() {
-        switch (draw(style == 2 ? 16 : 13)) {
-            case 0: return same("move", node(), node(), 0, (a, b, c) -> aid.move(a, b), (a, b, c) -> model.move(a, b));
-            case 1: return draw(4) != 0 || same("remove", node(), 0, 0, (a, b, c) -> aid.remove(a),
-                (a, b, c) -> model.remove(a));
-            case 2:
-            case 3: return same("setRule", node(), mostly(draw(4) - 1), length(), aid::setRule, model::setRule);
-            case 4: return same("setPage", unit(), mostly(draw(8)), length(), aid::setPage, model::setPage);
-            case 5:
-            case 6:
-            case 7:
-            case 8: return same("put", unit(), box(), 0, (a, b, c) -> aid.put(a, b), (a, b, c) -> model.put(a, b));
-            case 9: return same("takeOut", unit(), 0, 0, (a, b, c) -> aid.takeOut(a), (a, b, c) -> model.takeOut(a));
-            case 10: return same("split", found(30, box -> model.container(box, 1)), mostly(draw(4)),
-                mostly(1 + draw(200)), aid::split, model::split);
-            case 11: return same("merge", box(), box(), 0, (a, b, c) -> aid.merge(a, b),
-                (a, b, c) -> model.merge(a, b));
-            case 12: return snapshot();
-            default: return undo();
+        int choice = draw(CHANGES.length + (style == 2 ? 4 : 1));
+        if (choice >= CHANGES.length) {
+            return choice == CHANGES.length ? snapshot() : method(33);
         }
-    }
-
-    private boolean undo() {
-        return same("undo", 0, 0, 0, (a, b, c) -> aid.undo(), (a, b, c) -> model.undo());
-    }
-
-    private boolean snapshot() {
-        int choice = draw(style == 4 ? 8 : 12);
-        if (choice == 0) {
-            return same("save", 0, 0, 0, (a, b, c) -> aid.save(), (a, b, c) -> model.save());
-        }
-        if (choice == 1) {
-            return same("restore", 0, 0, 0, (a, b, c) -> aid.restore(), (a, b, c) -> model.restore());
-        }
-        return undo();
+        return CHANGES[choice] == 1 && draw(4) != 0 || method(CHANGES[choice]);
     }
 
     private boolean lend() {
-        switch (draw(12)) {
-            case 0: return same("copy", unit(), mostly(draw(draw(2) == 0 ? 4 : 40)), 0, (a, b, c) -> aid.copy(a, b),
-                (a, b, c) -> model.copy(a, b));
-            case 1: return same("setSeats", mostly(draw(8)), 0, 0, (a, b, c) -> aid.setSeats(a),
-                (a, b, c) -> model.setSeats(a));
-            case 2: return draw(style == 5 ? 8 : 2) != 0 || same("cancel", request(), 0, 0,
-                (a, b, c) -> aid.cancel(a), (a, b, c) -> model.cancel(a));
-            case 3: return draw(6) != 0 || same("review", 0, 0, 0, (a, b, c) -> aid.review(),
-                (a, b, c) -> model.review());
-            default: return same("request", mostly(draw(style == 4 ? 3 : 8)), unit(), day(), aid::request,
-                model::request) && report();
+        int method = LENDS[draw(LENDS.length)];
+        if (method == 23 && draw(style == 5 ? 8 : 2) != 0 || method == 24 && draw(6) != 0) {
+            return true;
         }
+        return method(method) && (method != 21 || report());
     }
 
     private boolean report() {
-        for (int i = 0; i < 6; i++) {
+        boolean isWhole = draw(3) == 0;
+        for (int i = isWhole ? 0 : 2; i < (isWhole ? 6 : 4); i++) {
             if (!same("report", i / 2, i % 2, 0, (a, b, c) -> aid.report(a, b), (a, b, c) -> model.report(a, b))) {
                 return false;
             }
         }
-        return same("report", mostly(draw(4)), mostly(draw(3)), 0, (a, b, c) -> aid.report(a, b),
-            (a, b, c) -> model.report(a, b));
+        return method(28);
     }
 
-    private boolean text() {
-        if (draw(3) == 0) {
-            return written();
-        }
+    private boolean snapshot() {
+        int choice = draw(style == 4 ? 8 : 12);
+        return method(choice == 0 ? 34 : choice == 1 ? 35 : 33);
+    }
+
+    private boolean fed() {
         String text = draw(3) == 0 ? garbage() : mutate(description(0, draw(3)));
         for (int i = 0; i < text.length(); i++) {
             int letter = text.charAt(i);
@@ -214,8 +186,7 @@ public final class ModelTest {
                 return false;
             }
         }
-        return draw(10) == 0 || same("read of " + text, draw(3) == 0 ? node() : 0, 0, 0, (a, b, c) -> aid.read(a),
-            (a, b, c) -> model.read(a));
+        return draw(10) == 0 || method(30);
     }
 
     private String garbage() {
@@ -257,41 +228,114 @@ public final class ModelTest {
     }
 
     private boolean written() {
-        if (!same("write", draw(2) == 0 ? 0 : node(), 0, 0, (a, b, c) -> aid.write(a), (a, b, c) -> model.write(a))) {
+        if (!method(31)) {
             return false;
         }
-        return same("text", mostly(draw(30)), 0, 0, (a, b, c) -> aid.text(a), (a, b, c) -> model.text(a))
-            && Dump.text(aid).equals(model.wholeText());
+        int length = model.wholeText().length();
+        int count = draw(6) == 0 ? length : 0;
+        for (int i = 0; i < count; i++) {
+            if (!textAt(i)) {
+                return false;
+            }
+        }
+        return textAt(length - 1) && textAt(length) && method(32);
     }
 
-    private boolean ask() {
-        switch (draw(13)) {
-            case 0: return same("node", node(), mostly(draw(12)), 0, (a, b, c) -> aid.node(a, b),
+    private boolean textAt(int index) {
+        return same("text", index, 0, 0, (a, b, c) -> aid.text(a), (a, b, c) -> model.text(a));
+    }
+
+    /** One call of the method with this number, in the order of the promises. */
+    private boolean method(int number) {
+        return number < 10 ? ofNodes(number) : number < 18 ? ofContainers(number)
+            : number < 28 ? ofRequests(number) : ofTexts(number);
+    }
+
+    private boolean add() {
+        int kind = mostly(draw(4) == 0 ? 1 : 2 + draw(2));
+        int pages = mostly(kind == 1 ? 0 : style == 1 ? draw(3) : draw(21));
+        int from = draw(3) == 0 ? -1 : mostly(draw(30));
+        int to = mostly(from + draw(30));
+        return same("add(.., " + from + ", " + to + ")", draw(2) == 0 ? 0 : node(), kind, pages,
+            (a, b, c) -> aid.add(a, b, c, from, to), (a, b, c) -> model.add(a, b, c, from, to));
+    }
+
+    private boolean ofNodes(int number) {
+        switch (number) {
+            case 0: return add();
+            case 1: return same("remove", node(), 0, 0, (a, b, c) -> aid.remove(a), (a, b, c) -> model.remove(a));
+            case 2: return same("move", node(), node(), 0, (a, b, c) -> aid.move(a, b), (a, b, c) -> model.move(a, b));
+            case 3: return same("node", node(), mostly(draw(12)), 0, (a, b, c) -> aid.node(a, b),
                 (a, b, c) -> model.node(a, b));
-            case 1: return same("child", node(), mostly(draw(4)), 0, (a, b, c) -> aid.child(a, b),
+            case 4: return same("child", node(), mostly(draw(4)), 0, (a, b, c) -> aid.child(a, b),
                 (a, b, c) -> model.child(a, b));
-            case 2: return same("restriction", node(), mostly(draw(3)), 0, (a, b, c) -> aid.restriction(a, b),
+            case 5: return same("setRule", node(), mostly(draw(4) - 1), length(), aid::setRule, model::setRule);
+            case 6: return same("setPage", unit(), mostly(draw(8)), length(), aid::setPage, model::setPage);
+            case 7: return same("restriction", node(), mostly(draw(3)), 0, (a, b, c) -> aid.restriction(a, b),
                 (a, b, c) -> model.restriction(a, b));
-            case 3: return same("openPages", unit(), day(), 0, (a, b, c) -> aid.openPages(a, b),
+            case 8: return same("openPages", unit(), day(), 0, (a, b, c) -> aid.openPages(a, b),
                 (a, b, c) -> model.openPages(a, b));
-            case 4: return draw(3) != 0 || same("firstDay", copy(), 0, 0, (a, b, c) -> aid.firstDay(a),
+            default: return same("firstDay", copy(), 0, 0, (a, b, c) -> aid.firstDay(a),
                 (a, b, c) -> model.firstDay(a));
-            case 5: return same("container", box(), mostly(draw(4)), 0, (a, b, c) -> aid.container(a, b),
+        }
+    }
+
+    private boolean ofContainers(int number) {
+        switch (number) {
+            case 10: return same("addContainer", mostly(style == 1 ? 200 : 1 + draw(60)), 0, 0,
+                (a, b, c) -> aid.addContainer(a), (a, b, c) -> model.addContainer(a));
+            case 11: return same("put", unit(), box(), 0, (a, b, c) -> aid.put(a, b), (a, b, c) -> model.put(a, b));
+            case 12: return same("takeOut", unit(), 0, 0, (a, b, c) -> aid.takeOut(a), (a, b, c) -> model.takeOut(a));
+            case 13: return same("split", found(30, box -> model.container(box, 1)), mostly(draw(4)),
+                mostly(1 + draw(200)), aid::split, model::split);
+            case 14: return same("merge", box(), box(), 0, (a, b, c) -> aid.merge(a, b),
+                (a, b, c) -> model.merge(a, b));
+            case 15: return same("container", box(), mostly(draw(4)), 0, (a, b, c) -> aid.container(a, b),
                 (a, b, c) -> model.container(a, b));
-            case 6: return same("unitAt", box(), mostly(draw(5)), 0, (a, b, c) -> aid.unitAt(a, b),
+            case 16: return same("unitAt", box(), mostly(draw(5)), 0, (a, b, c) -> aid.unitAt(a, b),
                 (a, b, c) -> model.unitAt(a, b));
-            case 7: return same("resolve", draw(2) == 0 ? box() : mostly(draw(30)), mostly(draw(12)), 0,
+            default: return same("resolve", draw(2) == 0 ? box() : mostly(draw(30)), mostly(draw(12)), 0,
                 (a, b, c) -> aid.resolve(a, b), (a, b, c) -> model.resolve(a, b));
-            case 8: return same("copyPart", copy(), mostly(draw(4)), 0, (a, b, c) -> aid.copyPart(a, b),
+        }
+    }
+
+    private boolean ofRequests(int number) {
+        switch (number) {
+            case 18: return same("copy", unit(), mostly(draw(draw(2) == 0 ? 4 : 40)), 0, (a, b, c) -> aid.copy(a, b),
+                (a, b, c) -> model.copy(a, b));
+            case 19: return same("copyPart", copy(), mostly(draw(4)), 0, (a, b, c) -> aid.copyPart(a, b),
                 (a, b, c) -> model.copyPart(a, b));
-            case 9: return same("requestPart", request(), mostly(draw(5)), 0, (a, b, c) -> aid.requestPart(a, b),
+            case 20: return same("setSeats", mostly(draw(8)), 0, 0, (a, b, c) -> aid.setSeats(a),
+                (a, b, c) -> model.setSeats(a));
+            case 21: return same("request", mostly(draw(style == 4 ? 3 : 8)), unit(), day(), aid::request,
+                model::request);
+            case 22: return same("requestPart", request(), mostly(draw(5)), 0, (a, b, c) -> aid.requestPart(a, b),
                 (a, b, c) -> model.requestPart(a, b));
-            case 10: return same("account", mostly(draw(10)), 0, 0, (a, b, c) -> aid.account(a),
+            case 23: return same("cancel", request(), 0, 0, (a, b, c) -> aid.cancel(a), (a, b, c) -> model.cancel(a));
+            case 24: return same("review", 0, 0, 0, (a, b, c) -> aid.review(), (a, b, c) -> model.review());
+            case 25: return same("account", mostly(draw(10)), 0, 0, (a, b, c) -> aid.account(a),
                 (a, b, c) -> model.account(a));
-            case 11: return same("dayCount", day(), mostly(draw(4)), 0, (a, b, c) -> aid.dayCount(a, b),
+            case 26: return same("dayCount", day(), mostly(draw(4)), 0, (a, b, c) -> aid.dayCount(a, b),
                 (a, b, c) -> model.dayCount(a, b));
             default: return same("openShare", day(), 0, 0, (a, b, c) -> aid.openShare(a),
                 (a, b, c) -> model.openShare(a));
+        }
+    }
+
+    private boolean ofTexts(int number) {
+        switch (number) {
+            case 28: return same("report", mostly(draw(4)), mostly(draw(3)), 0, (a, b, c) -> aid.report(a, b),
+                (a, b, c) -> model.report(a, b));
+            case 29: return same("feed", LETTERS.charAt(draw(LETTERS.length())), 0, 0,
+                (a, b, c) -> aid.feed((char) a), (a, b, c) -> model.feed((char) a));
+            case 30: return same("read", draw(3) == 0 ? node() : 0, 0, 0, (a, b, c) -> aid.read(a),
+                (a, b, c) -> model.read(a));
+            case 31: return same("write", draw(2) == 0 ? 0 : node(), 0, 0, (a, b, c) -> aid.write(a),
+                (a, b, c) -> model.write(a));
+            case 32: return textAt(mostly(draw(30)));
+            case 33: return same("undo", 0, 0, 0, (a, b, c) -> aid.undo(), (a, b, c) -> model.undo());
+            case 34: return same("save", 0, 0, 0, (a, b, c) -> aid.save(), (a, b, c) -> model.save());
+            default: return same("restore", 0, 0, 0, (a, b, c) -> aid.restore(), (a, b, c) -> model.restore());
         }
     }
 }
