@@ -43,13 +43,6 @@ final class Check {
         }
     }
 
-    /** Asks for the exception and that nothing that can be seen has changed, the next undo included. */
-    static void refuses(String what, Class<? extends RuntimeException> due, FindingAid aid, Call call) {
-        String before = Dump.of(aid);
-        fails(what, due, call);
-        same("the state after " + what, Dump.of(aid), before);
-    }
-
     /** The answer, or the name of the very class that was thrown. */
     static String outcome(Call call) {
         try {

@@ -12,6 +12,7 @@ public final class LendingSentencesTest {
         marksGoOnWhateverHappens();
         theMarkIsTheOneGotLast();
         putIntoTheSameContainer();
+        unitsOfAFullContainerStayInOrder();
         splitAtPositionsOfUnitsOnly();
         movedUnitsGetNewMarks();
         copiesHideAnySetButAllPages();
@@ -21,10 +22,12 @@ public final class LendingSentencesTest {
         seatsAreFrom1To6();
         thereAreAtMost30Requests();
         laterRequestsDecrease();
+        cancelledRequestsDoNotCount();
         threeRequestsOfAReaderForADay();
         asManyReadersAsSeats();
         theOriginalIsShownOnceADay();
         copiesAreShownInAscendingOrder();
+        all16CopiesAreShownOnOneDay();
         causesComeInTheirOrder();
         reportsAreReplaced();
         shownOfThisVeryUnit();
@@ -241,6 +244,25 @@ public final class LendingSentencesTest {
         Check.same("units", aid.container(0, 1), 2);
     }
 
+    /** "The units of a container are in an order", also all 39 of them, when one is taken out and put again. */
+    private static void unitsOfAFullContainerStayInOrder() {
+        for (int gone : new int[] {1, 2, 20, 38, 39}) {
+            FindingAid aid = Make.shelved(39, 5);
+            Check.same("takeOut", aid.takeOut(gone), 0);
+            Check.same("units", aid.container(0, 1), 38);
+            for (int position = 0; position < 38; position++) {
+                Check.same("without " + gone, aid.unitAt(0, position), position + (position < gone - 1 ? 1 : 2));
+            }
+            Check.same("put", aid.put(gone, 0), 40);
+            Check.same("at the end", aid.unitAt(0, 38), gone);
+            Check.same("put again", aid.put(gone, 0), 41);
+            Check.same("at the end", aid.unitAt(0, 38), gone);
+            Check.same("remove", aid.remove(40 - gone), 1);
+            Check.same("units", aid.container(0, 1), 38);
+            Check.same("marks", aid.account(9), gone == 20 ? 38 : 40);
+        }
+    }
+
     /** "A container can be split at positions of its units only." */
     private static void splitAtPositionsOfUnitsOnly() {
         FindingAid aid = Make.shelved(3, 5);
@@ -394,14 +416,39 @@ public final class LendingSentencesTest {
             Check.same("the last", aid.cancel(0), 0);
             Check.fails("none is left", Check.INDEX, () -> aid.cancel(0));
         }
-        FindingAid aid = Make.shelved(2, 5);
-        for (int day = 0; day < 4; day++) {
-            aid.request(0, 1 + day % 2, day);
+        for (int removed = 1; removed <= 2; removed++) {
+            FindingAid aid = Make.shelved(2, 5);
+            for (int day = 0; day < 4; day++) {
+                aid.request(0, 1 + day % 2, day);
+            }
+            aid.remove(removed);
+            Check.same("request 0", aid.requestPart(0, 2), 2 - removed);
+            Check.same("request 1", aid.requestPart(1, 2), 4 - removed);
+            Check.same("its unit", aid.requestPart(1, 1), 3 - removed);
+            Check.fails("request 2", Check.INDEX, () -> aid.requestPart(2, 0));
         }
-        aid.remove(1);
-        Check.same("request 0", aid.requestPart(0, 2), 1);
-        Check.same("request 1", aid.requestPart(1, 2), 3);
-        Check.fails("request 2", Check.INDEX, () -> aid.requestPart(2, 0));
+    }
+
+    private static void cancelledRequestsDoNotCount() {
+        FindingAid aid = Make.shelved(4, 1);
+        aid.setSeats(2);
+        aid.request(0, 1, 50);
+        aid.request(0, 2, 50);
+        Check.same("the third request of the reader", aid.request(0, 3, 50), -1);
+        aid.cancel(2);
+        Check.same("the third again, of the same unit", aid.request(0, 3, 50), -1);
+        aid.cancel(2);
+        Check.same("the second seat, and the same unit", aid.request(1, 3, 50), -1);
+        aid.cancel(2);
+        Check.same("the second seat again", aid.request(2, 3, 50), -1);
+        aid.cancel(2);
+        Check.same("readers with a seat", aid.dayCount(50, 1), 1);
+        Check.same("requests for the day", aid.dayCount(50, 0), 2);
+        Check.same("pages of all requests", aid.account(7), 2);
+        aid.cancel(0);
+        aid.cancel(0);
+        Check.same("nothing is left to review", aid.review(), 0);
+        Check.same("no reader has a seat", aid.dayCount(50, 1), 0);
     }
 
     /** "refused for the cause 2 if the reader has three requests for the day" */
@@ -490,6 +537,30 @@ public final class LendingSentencesTest {
         Check.same("its cause", aid.report(1, 0), 6);
         aid.cancel(2);
         Check.same("the one that is free", aid.request(3, 1, 53), 2);
+    }
+
+    /** Six seats and three requests each are enough for the original and all 16 copies, but for no more. */
+    private static void all16CopiesAreShownOnOneDay() {
+        FindingAid aid = Make.shelved(1, 5);
+        aid.setSeats(6);
+        for (int copy = 0; copy < 16; copy++) {
+            aid.copy(1, copy);
+        }
+        for (int i = 0; i < 17; i++) {
+            Check.same("request " + i, aid.request(i / 3, 1, 50), i - 1);
+        }
+        Check.fails("the 18th request", Check.UNSUPPORTED, () -> aid.request(5, 1, 50));
+        int[] due = {1, 1, 7, 0, 8, 16};
+        for (int i = 0; i < due.length; i++) {
+            Check.same("its report, " + i, aid.report(i / 2, i % 2), due[i]);
+        }
+        Check.fails("no seat", Check.UNSUPPORTED, () -> aid.request(6, 1, 50));
+        Check.same("its cause", aid.report(1, 0), 3);
+        Check.same("readers with a seat", aid.dayCount(50, 1), 6);
+        aid.cancel(16);
+        Check.same("the last copy again", aid.request(5, 1, 50), 15);
+        aid.cancel(0);
+        Check.same("the original again", aid.request(0, 1, 50), -1);
     }
 
     /** "for the cause 4 if the unit is closed on the day, else 5 if one of its pages is closed, else 6 .., else 7" */

@@ -42,7 +42,7 @@ final class Look {
 
     static String withoutReport(Past past) {
         StringBuilder out = new StringBuilder(state(past));
-        text(past.make(), out);
+        out.append("text ").append(Make.text(past.make())).append('\n');
         FindingAid fed = past.make();
         line(out, "feed", () -> fed.feed('x'));
         line(out, "read", () -> fed.read(0));
@@ -194,16 +194,6 @@ final class Look {
             }
         }
         return units.isEmpty() ? 0 : units.get(0);
-    }
-
-    private static void text(FindingAid aid, StringBuilder out) {
-        for (int i = 0; i < 300; i++) {
-            int index = i;
-            if (isRefused(() -> aid.text(index))) {
-                return;
-            }
-            out.append(aid.text(i));
-        }
     }
 
     private static void line(StringBuilder out, String name, Check.Call call) {

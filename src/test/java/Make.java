@@ -16,13 +16,24 @@ final class Make {
         return aid.read(parent);
     }
 
-    /** The text that stands there after the node is written. */
     static String written(FindingAid aid, int node) {
-        char[] letters = new char[aid.write(node)];
-        for (int i = 0; i < letters.length; i++) {
-            letters[i] = aid.text(i);
+        int length = aid.write(node);
+        String text = text(aid);
+        Check.same("the length of " + text, length, text.length());
+        return text;
+    }
+
+    /** The text that was written last. */
+    static String text(FindingAid aid) {
+        StringBuilder out = new StringBuilder();
+        for (int i = 0; i < 300; i++) {
+            try {
+                out.append(aid.text(i));
+            } catch (IndexOutOfBoundsException end) {
+                break;
+            }
         }
-        return new String(letters);
+        return out.toString();
     }
 
     /** Files 1 to count below the root, with the last day 10. */

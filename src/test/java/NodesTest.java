@@ -2,13 +2,10 @@
 public final class NodesTest {
     public static void main(String[] args) {
         newObject();
-        addChecksItsArguments();
-        addCountsAllNodesThatHaveBeen();
         addTakesAllKindsAndDates();
         removeTakesAllBelow();
         removeForgetsUnits();
         moveChangesTheOrder();
-        moveRefuses();
         nodeTells();
         childTells();
         Check.end();
@@ -33,50 +30,6 @@ public final class NodesTest {
         Check.same("the buffer", aid.feed('1'), 1);
     }
 
-    private static void addChecksItsArguments() {
-        FindingAid aid = new FindingAid();
-        for (int parent : new int[] {-1, 1, 39, 40, Integer.MIN_VALUE, Integer.MAX_VALUE}) {
-            Check.refuses("add below " + parent, Check.INDEX, aid, () -> aid.add(parent, 9, 99, -9, 0));
-        }
-        for (int kind : new int[] {-1, 0, 4, Integer.MIN_VALUE, Integer.MAX_VALUE}) {
-            Check.refuses("add of kind " + kind, Check.ARGUMENT, aid, () -> aid.add(0, kind, 0, -1, 0));
-        }
-        for (int pages : new int[] {-1, 21, Integer.MIN_VALUE, Integer.MAX_VALUE}) {
-            Check.refuses("add with pages " + pages, Check.ARGUMENT, aid, () -> aid.add(0, 2, pages, -1, 0));
-        }
-        Check.refuses("series with a page", Check.ARGUMENT, aid, () -> aid.add(0, 1, 1, -1, 0));
-        int[][] dates = {{-2, 5}, {10000, 10000}, {0, -1}, {5, 4}, {5, 10000}, {Integer.MIN_VALUE, 0},
-            {Integer.MAX_VALUE, Integer.MAX_VALUE}, {0, Integer.MIN_VALUE}};
-        for (int[] days : dates) {
-            Check.refuses("dates " + days[0] + " " + days[1], Check.ARGUMENT, aid,
-                () -> aid.add(0, 2, 1, days[0], days[1]));
-        }
-        aid.add(0, 1, 0, -1, 0);
-        aid.add(1, 2, 3, -1, 0);
-        aid.add(2, 3, 3, -1, 0);
-        int[][] kinds = {{1, 1}, {2, 1}, {2, 2}, {3, 3}, {3, 2}};
-        for (int[] pair : kinds) {
-            Check.refuses("kind " + pair[1] + " below node " + pair[0], Check.ARGUMENT, aid,
-                () -> aid.add(pair[0], pair[1], 0, -1, 0));
-        }
-    }
-
-    private static void addCountsAllNodesThatHaveBeen() {
-        FindingAid aid = new FindingAid();
-        for (int node = 1; node < 40; node++) {
-            Check.same("add", aid.add(0, 2, 1, 0, 0), node);
-        }
-        Check.fails("there is no node 40", Check.INDEX, () -> aid.node(40, 0));
-        Check.fails("there is no node 40", Check.INDEX, () -> aid.add(40, 3, 0, -1, 0));
-        Check.same("remove", aid.remove(39), 1);
-        Check.refuses("the 41st node", Check.STATE, aid, () -> aid.add(0, 2, 1, 0, 0));
-        Check.refuses("first its arguments", Check.ARGUMENT, aid, () -> aid.add(0, 0, 1, 0, 0));
-        Check.refuses("first its parent", Check.INDEX, aid, () -> aid.add(39, 2, 1, 0, 0));
-        Check.same("undo", aid.undo(), 7);
-        Check.same("undo", aid.undo(), 6);
-        Check.same("the number is free again", aid.add(0, 1, 0, -1, 0), 39);
-    }
-
     private static void addTakesAllKindsAndDates() {
         FindingAid aid = new FindingAid();
         Check.same("series", aid.add(0, 1, 0, 0, 9999), 1);
@@ -92,9 +45,6 @@ public final class NodesTest {
 
     private static void removeTakesAllBelow() {
         FindingAid aid = sample();
-        Check.refuses("remove of none", Check.INDEX, aid, () -> aid.remove(7));
-        Check.refuses("remove of none", Check.INDEX, aid, () -> aid.remove(-1));
-        Check.refuses("remove of the root", Check.ARGUMENT, aid, () -> aid.remove(0));
         Check.same("remove", aid.remove(1), 4);
         for (int node = 1; node <= 4; node++) {
             int gone = node;
@@ -104,7 +54,7 @@ public final class NodesTest {
         Check.same("child", aid.child(0, 0), 5);
         Check.same("below the root", aid.node(0, 7), 2);
         Check.same("the next number", aid.add(0, 1, 0, -1, 0), 7);
-        Check.refuses("remove again", Check.INDEX, aid, () -> aid.remove(1));
+        Check.fails("remove again", Check.INDEX, () -> aid.remove(1));
     }
 
     private static void removeForgetsUnits() {
@@ -150,23 +100,9 @@ public final class NodesTest {
         Check.same("latest day of the old parent", aid.node(1, 5), -1);
         Check.same("parent", aid.node(2, 1), 6);
         Check.same("grandchild", aid.node(4, 1), 2);
-        aid.write(0);
-        Check.same("all", Dump.text(aid), "0(2p5@100-200,1(2(3p4@300-300,3p3@0-100)),1)");
+        Check.same("all", Make.written(aid, 0), "0(2p5@100-200,1(2(3p4@300-300,3p3@0-100)),1)");
         aid.move(6, 0);
-        aid.write(0);
-        Check.same("all", Dump.text(aid), "0(2p5@100-200,1,1(2(3p4@300-300,3p3@0-100)))");
-    }
-
-    private static void moveRefuses() {
-        FindingAid aid = sample();
-        int[][] none = {{7, 0}, {-1, 0}, {1, 7}, {1, -1}, {40, 40}, {0, 99}};
-        for (int[] pair : none) {
-            Check.refuses("move " + pair[0] + " " + pair[1], Check.INDEX, aid, () -> aid.move(pair[0], pair[1]));
-        }
-        int[][] wrong = {{0, 0}, {0, 1}, {1, 1}, {1, 2}, {1, 3}, {1, 6}, {2, 5}, {5, 3}, {3, 4}, {2, 2}};
-        for (int[] pair : wrong) {
-            Check.refuses("move " + pair[0] + " " + pair[1], Check.ARGUMENT, aid, () -> aid.move(pair[0], pair[1]));
-        }
+        Check.same("all", Make.written(aid, 0), "0(2p5@100-200,1,1(2(3p4@300-300,3p3@0-100)))");
     }
 
     private static void nodeTells() {
@@ -184,10 +120,6 @@ public final class NodesTest {
             Check.same("node 3, " + what, aid.node(3, what), three[what]);
             Check.same("node 0, " + what, aid.node(0, what), root[what]);
         }
-        Check.fails("what", Check.ARGUMENT, () -> aid.node(0, -1));
-        Check.fails("what", Check.ARGUMENT, () -> aid.node(0, 12));
-        Check.fails("node", Check.INDEX, () -> aid.node(7, 12));
-        Check.fails("node", Check.INDEX, () -> aid.node(-1, 0));
         aid.takeOut(4);
         aid.put(4, 0);
         Check.same("the last mark", aid.node(4, 10), 3);
@@ -203,10 +135,6 @@ public final class NodesTest {
             Check.same("child " + i, aid.child(0, i), children[i]);
         }
         Check.same("child of 2", aid.child(2, 1), 4);
-        int[][] none = {{0, 3}, {0, -1}, {3, 0}, {7, 0}, {-1, 0}, {0, Integer.MAX_VALUE}, {0, Integer.MIN_VALUE}};
-        for (int[] pair : none) {
-            Check.fails("child " + pair[0] + " " + pair[1], Check.INDEX, () -> aid.child(pair[0], pair[1]));
-        }
     }
 
     /** 0(1(2(3p3@0-100,3p4@300-300)),2p5@100-200,1), numbered as it stands. */

@@ -1,19 +1,19 @@
 /** Promises 7 to 11: setRule, setPage, restriction, openPages, firstDay. */
 public final class RulesTest {
     public static void main(String[] args) {
-        setRuleTakesAndRefuses();
+        setRuleTellsThePrevious();
         rulesWorkFromTheRootDown();
         equalLengthsDecide();
         lastClosedDay();
-        setPageTakesAndRefuses();
+        setPageTellsThePrevious();
         openPagesTells();
         latestDayOfWhatIsBelowCounts();
         firstDayTells();
         Check.end();
     }
 
-    private static void setRuleTakesAndRefuses() {
-        FindingAid aid = chain();
+    private static void setRuleTellsThePrevious() {
+        FindingAid aid = Make.chain();
         Check.same("first rule", aid.setRule(1, 0, 1), -1);
         Check.same("next rule", aid.setRule(1, 1, 5000), 0);
         Check.same("opens", aid.setRule(1, 2, -12345), 1);
@@ -22,18 +22,10 @@ public final class RulesTest {
         Check.same("all are changes", aid.undo(), 7);
         Check.same("undo", aid.undo(), 6);
         Check.same("the mode again", aid.setRule(1, 0, 7), 2);
-        int[][] rules = {{-2, 1}, {3, 1}, {0, 0}, {0, 5001}, {1, 0}, {1, -1}, {1, 5001}, {Integer.MAX_VALUE, 1},
-            {Integer.MIN_VALUE, 1}, {0, Integer.MIN_VALUE}, {1, Integer.MAX_VALUE}};
-        for (int[] rule : rules) {
-            Check.refuses("rule " + rule[0] + " " + rule[1], Check.ARGUMENT, aid,
-                () -> aid.setRule(1, rule[0], rule[1]));
-        }
-        Check.refuses("no node", Check.INDEX, aid, () -> aid.setRule(4, 9, 0));
-        Check.refuses("no node", Check.INDEX, aid, () -> aid.setRule(-1, 0, 1));
     }
 
     private static void rulesWorkFromTheRootDown() {
-        FindingAid aid = chain();
+        FindingAid aid = Make.chain();
         aid.setRule(0, 0, 100);
         expect(aid, new int[] {100, 100, 100, 100}, new int[] {0, 0, 0, 0});
         aid.setRule(1, 0, 50);
@@ -48,14 +40,10 @@ public final class RulesTest {
         expect(aid, new int[] {100, 150, 0, 30}, new int[] {0, 1, -1, 3});
         aid.setRule(3, -1, 0);
         expect(aid, new int[] {100, 150, 0, 0}, new int[] {0, 1, -1, -1});
-        Check.fails("what", Check.ARGUMENT, () -> aid.restriction(0, 3));
-        Check.fails("what", Check.ARGUMENT, () -> aid.restriction(0, -1));
-        Check.fails("node", Check.INDEX, () -> aid.restriction(4, 3));
-        Check.fails("node", Check.INDEX, () -> aid.restriction(-1, 0));
     }
 
     private static void equalLengthsDecide() {
-        FindingAid aid = chain();
+        FindingAid aid = Make.chain();
         aid.setRule(0, 0, 100);
         aid.setRule(1, 0, 100);
         expect(aid, new int[] {100, 100, 100, 100}, new int[] {0, 0, 0, 0});
@@ -78,7 +66,7 @@ public final class RulesTest {
     }
 
     private static void lastClosedDay() {
-        FindingAid aid = chain();
+        FindingAid aid = Make.chain();
         Check.same("open", aid.restriction(3, 2), -1);
         aid.setRule(0, 0, 5000);
         Check.same("the root", aid.restriction(0, 2), 5900);
@@ -91,8 +79,8 @@ public final class RulesTest {
         Check.same("opened", aid.restriction(5, 2), -1);
     }
 
-    private static void setPageTakesAndRefuses() {
-        FindingAid aid = chain();
+    private static void setPageTellsThePrevious() {
+        FindingAid aid = Make.chain();
         Check.same("first length", aid.setPage(3, 0, 1), 0);
         Check.same("next length", aid.setPage(3, 0, 5000), 1);
         Check.same("removed", aid.setPage(3, 0, 0), 5000);
@@ -100,18 +88,10 @@ public final class RulesTest {
         Check.same("other page", aid.setPage(3, 3, 7), 0);
         Check.same("other unit", aid.setPage(2, 3, 8), 0);
         Check.same("the first unit", aid.setPage(3, 3, 7), 7);
-        int[][] pages = {{3, 4}, {3, -1}, {1, 0}, {0, 0}, {4, 0}, {-1, 0}, {3, Integer.MAX_VALUE}};
-        for (int[] page : pages) {
-            Check.refuses("page " + page[0] + " " + page[1], Check.INDEX, aid,
-                () -> aid.setPage(page[0], page[1], -1));
-        }
-        for (int length : new int[] {-1, 5001, Integer.MIN_VALUE, Integer.MAX_VALUE}) {
-            Check.refuses("length " + length, Check.ARGUMENT, aid, () -> aid.setPage(3, 0, length));
-        }
     }
 
     private static void openPagesTells() {
-        FindingAid aid = chain();
+        FindingAid aid = Make.chain();
         Check.same("all", aid.openPages(3, 0), 15);
         Check.same("no unit", aid.openPages(1, 0), 0);
         aid.setPage(3, 1, 100);
@@ -126,13 +106,10 @@ public final class RulesTest {
         Check.same("closed on all days", aid.openPages(4, 9999), 0x7FFFF);
         aid.setRule(4, 0, 1);
         Check.same("closed on all days", aid.openPages(4, 9999), 0);
-        Check.fails("day", Check.ARGUMENT, () -> aid.openPages(3, -1));
-        Check.fails("day", Check.ARGUMENT, () -> aid.openPages(3, 10000));
-        Check.fails("node", Check.INDEX, () -> aid.openPages(5, -1));
     }
 
     private static void latestDayOfWhatIsBelowCounts() {
-        FindingAid aid = chain();
+        FindingAid aid = Make.chain();
         aid.setPage(2, 0, 10);
         Check.same("page of the file", aid.openPages(2, 910), 30);
         Check.same("the day after", aid.openPages(2, 911), 31);
@@ -143,7 +120,7 @@ public final class RulesTest {
     }
 
     private static void firstDayTells() {
-        FindingAid aid = chain();
+        FindingAid aid = Make.chain();
         aid.copy(3, 2);
         Check.same("always", aid.firstDay(0), 0);
         aid.setPage(3, 1, 4000);
@@ -172,18 +149,7 @@ public final class RulesTest {
         Check.same("the last day", aid.firstDay(3), 9999);
         aid.setPage(5, 0, 5000);
         Check.fails("a day later", Check.NO_ELEMENT, () -> aid.firstDay(3));
-        Check.fails("copy", Check.INDEX, () -> aid.firstDay(4));
-        Check.fails("copy", Check.INDEX, () -> aid.firstDay(-1));
         aid.remove(3);
         Check.fails("removed copy", Check.INDEX, () -> aid.firstDay(0));
-    }
-
-    /** 0(1(2p5@100-500(3p4@800-900))), numbered as it stands. */
-    private static FindingAid chain() {
-        FindingAid aid = new FindingAid();
-        aid.add(0, 1, 0, -1, 0);
-        aid.add(1, 2, 5, 100, 500);
-        aid.add(2, 3, 4, 800, 900);
-        return aid;
     }
 }

@@ -16,6 +16,7 @@ public final class TextSentencesTest {
         atMost8ChangesAreTakenBack();
         changesWithoutEffectAreChanges();
         whatIsNoChange();
+        questionsChangeNothing();
         savedOnceRestoredOften();
         noChangeIsTakenBackAfterRestore();
         undoAndRestoreLeaveReportBufferAndText();
@@ -132,10 +133,16 @@ public final class TextSentencesTest {
         read("2p1@1-1(x", -108);
         read("2p1@1-1(3x", -109);
         read("2p1@1-1(3)x", -110);
+        read("1(2(3x", -105);
+        read("2p1@5-6(3p1@5-6,3p1@5-6;3)", -123);
+        read("-1", -100);
+        read("2" + (char) 0xb2, -101);
+        read("2p" + (char) 0x661, -102);
         read("0(0)0", -104);
         read("0".repeat(100), -101);
         read("0(".repeat(49) + "0)", -200);
         read("0(".repeat(49) + "0x", -199);
+        read("0(".repeat(30) + "0" + ")".repeat(31), -191);
         cannotBeAdded("0(".repeat(33) + "0" + ")".repeat(33));
     }
 
@@ -319,6 +326,33 @@ public final class TextSentencesTest {
         Check.fails("no change", Check.STATE, aid::undo);
         Check.same("read of what was fed below no parent", aid.read(0), 1);
         Check.same("that is a change", aid.undo(), 0);
+    }
+
+    private static void questionsChangeNothing() {
+        Check.same("what stands after all questions", Look.all(TextSentencesTest::asked), Look.all(Make::rich));
+    }
+
+    private static FindingAid asked() {
+        FindingAid aid = Make.rich();
+        for (int i = 0; i < 4; i++) {
+            aid.node(2, 5 + i);
+            aid.restriction(2, i % 3);
+            aid.openPages(3, i);
+            aid.container(0, i);
+            aid.copyPart(0, i);
+            aid.requestPart(i, i);
+            aid.account(i);
+            aid.dayCount(430, i);
+            aid.report(i / 2, i % 2);
+            aid.text(i);
+        }
+        aid.child(0, 2);
+        aid.firstDay(0);
+        aid.unitAt(0, 1);
+        aid.resolve(0, 1);
+        aid.openShare(400);
+        aid.write(1);
+        return aid;
     }
 
     /** "Restores what was saved, which stays saved", and save puts it "in place of what was saved before". */

@@ -17,6 +17,8 @@ public final class UndoSentencesTest {
         eachChangeIsSaved();
         eightOfManyAreTakenBack();
         takenBackFromTheSaved();
+        numbersAreGivenAgain();
+        numbersAreGivenAgainAfterRestore();
         reviewCancelsWhatIsNotOpen();
         reviewCancelsOriginalsInNoContainer();
         Check.end();
@@ -143,6 +145,109 @@ public final class UndoSentencesTest {
                 return aid;
             }), saved);
         }
+    }
+
+    /** Two ways to make the nodes 1 to 3, the container 0, the copies 0 and 1 and the request 0, all of them unlike. */
+    private static void make(FindingAid aid, boolean isFirst) {
+        if (isFirst) {
+            aid.add(0, 2, 5, 10, 20);
+            aid.add(1, 3, 6, 30, 40);
+            aid.add(0, 1, 0, -1, 0);
+        } else {
+            aid.add(0, 1, 0, 7, 9);
+            aid.add(1, 2, 3, -1, 0);
+            aid.add(2, 3, 4, 50, 60);
+        }
+        aid.addContainer(isFirst ? 20 : 30);
+        aid.put(2, 0);
+        aid.put(isFirst ? 1 : 3, 0);
+        aid.copy(isFirst ? 1 : 2, isFirst ? 3 : 5);
+        aid.copy(2, isFirst ? 4 : 2);
+        aid.setRule(isFirst ? 1 : 2, isFirst ? 1 : 0, isFirst ? 77 : 88);
+        aid.setPage(2, 1, isFirst ? 99 : 11);
+        aid.request(isFirst ? 1 : 2, 2, isFirst ? 9000 : 9100);
+        aid.setSeats(isFirst ? 5 : 6);
+    }
+
+    /** The rows of what is taken back hold other values in between. */
+    private static void numbersAreGivenAgain() {
+        for (int split = 1; split <= 8; split++) {
+            int back = split;
+            String due = Look.state(() -> upTo(12 - back, true));
+            Check.same("other values taken back, " + back, Look.state(() -> {
+                FindingAid aid = new FindingAid();
+                aid.save();
+                make(aid, false);
+                aid.restore();
+                make(aid, true);
+                undone(aid, back);
+                return aid;
+            }), due);
+        }
+    }
+
+    private static FindingAid upTo(int changes, boolean isFirst) {
+        FindingAid aid = new FindingAid();
+        make(aid, isFirst);
+        undone(aid, 12 - changes);
+        return aid;
+    }
+
+    private static void numbersAreGivenAgainAfterRestore() {
+        String first = Look.state(() -> upTo(12, true));
+        String second = Look.state(() -> upTo(12, false));
+        Check.same("they are unlike", first.equals(second) ? 1 : 0, 0);
+        for (int order = 0; order < 2; order++) {
+            boolean isFirst = order == 0;
+            Check.same("restored over other values", Look.state(() -> {
+                FindingAid aid = new FindingAid();
+                aid.save();
+                make(aid, !isFirst);
+                aid.restore();
+                make(aid, isFirst);
+                aid.save();
+                for (int i = 0; i < 8; i++) {
+                    aid.undo();
+                }
+                aid.addContainer(9);
+                aid.remove(1);
+                aid.restore();
+                return aid;
+            }), isFirst ? first : second);
+        }
+        Check.same("restored in place of other values", Look.state(UndoSentencesTest::restoredOverOthers), first);
+    }
+
+    private static FindingAid restoredOverOthers() {
+        FindingAid aid = new FindingAid();
+        for (int i = 0; i < 4; i++) {
+            aid.add(0, 1, 0, -1, 0);
+        }
+        undone(aid, 4);
+        aid.add(0, 2, 5, 10, 20);
+        aid.add(1, 3, 6, 30, 40);
+        aid.add(0, 1, 0, -1, 0);
+        aid.addContainer(20);
+        aid.put(2, 0);
+        aid.put(1, 0);
+        aid.copy(1, 3);
+        aid.save();
+        undone(aid, 7);
+        aid.add(0, 1, 0, 7, 9);
+        aid.add(1, 2, 3, -1, 0);
+        aid.add(2, 3, 4, 50, 60);
+        aid.addContainer(30);
+        aid.addContainer(30);
+        aid.put(3, 1);
+        aid.copy(2, 5);
+        aid.copy(2, 5);
+        aid.restore();
+        aid.copy(2, 4);
+        aid.setRule(1, 1, 77);
+        aid.setPage(2, 1, 99);
+        aid.request(1, 2, 9000);
+        aid.setSeats(5);
+        return aid;
     }
 
     /** "Cancels all requests that show pages that are not open on their days, as it is now", and no others. */
