@@ -13,6 +13,7 @@ public final class LendingSentencesTest {
         theMarkIsTheOneGotLast();
         putIntoTheSameContainer();
         unitsOfAFullContainerStayInOrder();
+        removedUnitsLeaveTheirContainers();
         splitAtPositionsOfUnitsOnly();
         movedUnitsGetNewMarks();
         copiesHideAnySetButAllPages();
@@ -261,6 +262,27 @@ public final class LendingSentencesTest {
             Check.same("units", aid.container(0, 1), 38);
             Check.same("marks", aid.account(9), gone == 20 ? 38 : 40);
         }
+    }
+
+    /** "Their units are taken out of their containers", where there is room again, and the others stay in order. */
+    private static void removedUnitsLeaveTheirContainers() {
+        FindingAid aid = Make.units(5, 5);
+        aid.addContainer(20);
+        for (int unit = 1; unit <= 4; unit++) {
+            aid.put(unit, 0);
+        }
+        Check.fails("no room", Check.STATE, () -> aid.put(5, 0));
+        Check.same("remove", aid.remove(2), 1);
+        Check.same("the sum", aid.container(0, 2), 15);
+        Check.same("units in containers", aid.account(4), 3);
+        Check.same("room for one", aid.put(5, 0), 5);
+        int[] units = {1, 3, 4, 5};
+        for (int position = 0; position < units.length; position++) {
+            Check.same("position " + position, aid.unitAt(0, position), units[position]);
+        }
+        Check.fails("behind the last", Check.INDEX, () -> aid.unitAt(0, 4));
+        Check.same("split behind the removed one", aid.split(0, 1, 15), 1);
+        Check.same("the first that is moved", aid.unitAt(1, 0), 3);
     }
 
     /** "A container can be split at positions of its units only." */

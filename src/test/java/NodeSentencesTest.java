@@ -278,6 +278,11 @@ public final class NodeSentencesTest {
         latest(aid, 30, -1, -1, 20);
         aid.remove(6);
         latest(aid, 20, -1, -1, 20);
+        FindingAid own = new FindingAid();
+        own.add(0, 1, 0, 0, 50);
+        own.add(1, 2, 1, 0, 49);
+        own.add(2, 3, 1, 47, 48);
+        latest(own, 50, 50, 49, 48);
     }
 
     private static void latest(FindingAid aid, int... due) {

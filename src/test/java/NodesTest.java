@@ -2,6 +2,7 @@
 public final class NodesTest {
     public static void main(String[] args) {
         newObject();
+        objectsStandApart();
         addTakesAllKindsAndDates();
         removeTakesAllBelow();
         removeForgetsUnits();
@@ -28,6 +29,32 @@ public final class NodesTest {
         Check.fails("text", Check.INDEX, () -> aid.text(0));
         Check.fails("report", Check.NO_ELEMENT, () -> aid.report(0, 0));
         Check.same("the buffer", aid.feed('1'), 1);
+    }
+
+    /** "Creates a finding aid with the root alone", whatever others there are, which it leaves as they are. */
+    private static void objectsStandApart() {
+        Check.same("an object beside a new one", Look.all(NodesTest::besideAnother), Look.all(Make::rich));
+        Look.Past late = () -> {
+            Make.rich();
+            return new FindingAid();
+        };
+        Check.same("a new object beside another", Look.all(late), Look.all(FindingAid::new));
+    }
+
+    private static FindingAid besideAnother() {
+        FindingAid aid = Make.rich();
+        FindingAid other = Make.shelved(3, 4);
+        other.copy(1, 1);
+        other.setRule(0, 1, 9);
+        other.setPage(2, 1, 7);
+        other.setSeats(1);
+        other.request(0, 1, 99);
+        Check.fails("request", Check.UNSUPPORTED, () -> other.request(1, 1, 99));
+        other.save();
+        other.write(0);
+        other.undo();
+        Make.feed(other, "3p");
+        return aid;
     }
 
     private static void addTakesAllKindsAndDates() {
